@@ -81,7 +81,7 @@ public final class BlockTest {
         wide.sign('b', 30, 0, 10, 10);
         wide.sign('c', 80, -30, 10, 10);
         wide.sign('d', 85, -45, 10, 20);
-        CHECK.due("the widest parts; the least size of the rest counts", Pages.blocks(wide, 4), "0,1,2,2");
+        CHECK.due("the widest gap is wide enough, then, of lesser signs, the other", Pages.blocks(wide, 4), "0,1,2,2");
     }
 
     private static void overlaps() {
@@ -90,11 +90,22 @@ public final class BlockTest {
         page.sign('b', 5, -12, 5, 10);
         page.sign('c', 40, -24, 5, 10);
         CHECK.due("a gap is beyond all rights before", Pages.blocks(page, 3), "0,0,0");
-        TextOrder turned = Pages.lettered();
-        turned.sign('a', 0, 0, 5, 60);
-        turned.sign('b', 60, 12, 5, 10);
-        turned.sign('c', 60, 34, 5, 10);
-        CHECK.due("lies beyond all bottoms before", Pages.text(turned), "c_b_a");
+        TextOrder tall = Pages.lettered();
+        tall.sign('a', 0, 0, 5, 60);
+        tall.sign('b', 60, 12, 5, 10);
+        tall.sign('c', 60, 34, 5, 10);
+        CHECK.due("or below all bottoms before", Pages.text(tall), "c_b_a");
+        TextOrder left = Pages.lettered();
+        left.sign('a', -1000, 0, 10, 10);
+        left.sign('b', -900, 0, 50, 10);
+        left.sign('c', -890, -12, 10, 10);
+        left.sign('d', -895, -24, 10, 10);
+        CHECK.due("what overlaps behind a gap stays together", Pages.blocks(left, 4), "0,1,1,1");
+        TextOrder low = Pages.lettered();
+        low.sign('a', 0, 1000, 10, 10);
+        low.sign('b', 0, 900, 10, 10);
+        low.sign('c', 5, 888, 10, 10);
+        CHECK.due("what overlaps below a gap stays together", Pages.blocks(low, 3), "0,1,1");
     }
 
     private static void segmentsOfOneBlock() {

@@ -40,6 +40,12 @@ public final class MapTest {
         CHECK.due("map 2, as 0 and 1 tell it no more", Pages.text(page), "xy");
         page.map(0, 66, 'z', 0);
         CHECK.due("another code", Pages.text(page), "xy");
+        TextOrder least = new TextOrder();
+        least.sign(0, 0, 0, 5, 10);
+        least.sign(255, 5, 0, 5, 10);
+        least.map(0, 0, 'p', 'q');
+        least.map(3, 255, 'r', 's');
+        CHECK.due("the first code of the first map, the last of the last", Pages.text(least), "pqrs");
     }
 
     private static void wrong(TextOrder page, int kind, int code, int letter, int second,

@@ -1,3 +1,5 @@
+import java.util.function.IntUnaryOperator;
+
 /** Pages for tests, and all that an object tells, as one text. */
 final class Pages {
     static final int WIDTH = 5;
@@ -35,35 +37,27 @@ final class Pages {
     }
 
     static String owners(TextOrder page) {
-        StringBuilder owners = new StringBuilder();
-        for (int i = 0; i < page.length(); i++) {
-            owners.append(i == 0 ? "" : ",").append(page.from(i));
-        }
-        return owners.toString();
+        return each(page.length(), page::from);
     }
 
     static String lines(TextOrder page, int signs) {
-        StringBuilder lines = new StringBuilder();
-        for (int i = 0; i < signs; i++) {
-            lines.append(i == 0 ? "" : ",").append(page.line(i));
-        }
-        return lines.toString();
+        return each(signs, page::line);
     }
 
     static String blocks(TextOrder page, int signs) {
-        StringBuilder blocks = new StringBuilder();
-        for (int i = 0; i < signs; i++) {
-            blocks.append(i == 0 ? "" : ",").append(page.block(i));
-        }
-        return blocks.toString();
+        return each(signs, page::block);
     }
 
     static String doubles(TextOrder page, int signs) {
-        StringBuilder doubles = new StringBuilder();
-        for (int i = 0; i < signs; i++) {
-            doubles.append(i == 0 ? "" : ",").append(page.twice(i));
+        return each(signs, page::twice);
+    }
+
+    private static String each(int count, IntUnaryOperator answer) {
+        StringBuilder answers = new StringBuilder();
+        for (int i = 0; i < count; i++) {
+            answers.append(i == 0 ? "" : ",").append(answer.applyAsInt(i));
         }
-        return doubles.toString();
+        return answers.toString();
     }
 
     static String spaces(TextOrder page, int signs) {

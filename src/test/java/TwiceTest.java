@@ -43,6 +43,12 @@ public final class TwiceTest {
         CHECK.due("turned: a quarter of the size along x", second(3, 2, 0, 1, true), 0);
         CHECK.due("turned: more along x", second(4, 0, 100, 100, true), -1);
         CHECK.due("turned: more along y", second(0, 3, 100, 100, true), -1);
+        TextOrder quarter = Pages.lettered();
+        quarter.sign('a', 0, 0, 11, 15);
+        quarter.sign('a', 3, 0, 11, 15);
+        quarter.sign('a', 0, 4, 11, 15);
+        quarter.sign('a', 2, 3, 11, 15);
+        CHECK.due("a quarter is not cut off", Pages.doubles(quarter, 4), "-1,-1,-1,0");
         TextOrder none = Pages.lettered();
         none.sign('a', 0, 0, 0, 10);
         none.sign('a', 1, 0, 0, 10);
