@@ -5,25 +5,30 @@ public final class SpaceTest {
     private static final Check CHECK = new Check("SpaceTest");
 
     public static void main(String[] args) {
-        wrongSigns();
+        noSuchSign();
         shares();
         cuts();
+        leastAndGreatestSizes();
+        greatestWidths();
+        withoutAWidth();
         nextOnes();
         CHECK.end();
     }
 
-    private static void wrongSigns() {
+    private static void noSuchSign() {
         TextOrder page = Pages.lettered();
+        CHECK.dueThrow("space(0) without signs", NoSuchElementException.class, () -> page.space(0));
         page.sign('a', 0, 0, 5, 10);
-        CHECK.dueThrow("space(1)", NoSuchElementException.class, () -> page.space(1));
-        CHECK.dueThrow("space(-1)", NoSuchElementException.class, () -> page.space(-1));
+        for (int sign : new int[] {-1, 1, 200, Integer.MIN_VALUE, Integer.MAX_VALUE}) {
+            CHECK.dueThrow("space(" + sign + ")", NoSuchElementException.class, () -> page.space(sign));
+        }
         CHECK.due("space(0)", page.space(0), false);
     }
 
     private static boolean behind(long width, int size, long gap) {
         TextOrder page = Pages.lettered();
-        page.sign('a', 0, 0, width, size);
-        page.sign('b', width + gap, 0, 5, 10);
+        page.sign('a', -width, 0, width, size);
+        page.sign('b', gap, 0, 5, 10);
         CHECK.due("none behind the last", page.space(1), false);
         return page.space(0);
     }
@@ -52,6 +57,44 @@ public final class SpaceTest {
         CHECK.due("the size of the sign before the gap counts", Pages.spaces(page, 5), "10010");
     }
 
+    /** "Where the gap is three times its size or more, the line is CUT there": then there is no space. */
+    private static void leastAndGreatestSizes() {
+        CHECK.due("size 1, a gap of 2", behind(8, 1, 2), true);
+        CHECK.due("size 1, a gap of 3", behind(8, 1, 3), false);
+        CHECK.due("size 1000, a gap of 2999", behind(8, 1000, 2999), true);
+        CHECK.due("size 1000, a gap of 3000", behind(8, 1000, 3000), false);
+        CHECK.due("size 1, a gap of 1000000", behind(8, 1, 1000000 - 8), false);
+        TextOrder page = Pages.lettered();
+        page.sign('a', 0, 0, 1000, 1);
+        page.sign('b', 1002, 0, 1000, 1);
+        page.sign('c', 2005, 0, 5, 1);
+        CHECK.due("no spaces by shares", Pages.spaces(page, 3), "000");
+        CHECK.due("2 is no cut, 3 is one", Pages.text(page), "ab|c");
+    }
+
+    /** "SHARE(gap, width) is 250 or more", of the widest signs behind which a gap is not yet a cut. */
+    private static void greatestWidths() {
+        CHECK.due("2999 of 11996", behind(11996, 1000, 2999), true);
+        CHECK.due("2999 of 11997", behind(11997, 1000, 2999), false);
+        CHECK.due("2999 of 1000000", behind(1000000, 1000, 2999), false);
+        CHECK.due("a gap below 0 of 1000000", behind(1000000, 1000, -1000000), false);
+        CHECK.due("1 of 4", behind(4, 10, 1), true);
+        CHECK.due("1 of 5", behind(5, 10, 1), false);
+        CHECK.due("2 of 9", behind(9, 10, 2), false);
+    }
+
+    /** "Without a width none", but a cut where the gap is wide enough for one. */
+    private static void withoutAWidth() {
+        CHECK.due("a gap of 1", behind(0, 10, 1), false);
+        CHECK.due("a gap of 29", behind(0, 10, 29), false);
+        CHECK.due("a gap of 30", behind(0, 10, 30), false);
+        TextOrder page = Pages.lettered();
+        page.sign('a', 0, 0, 0, 10);
+        page.sign('b', 29, 0, 0, 10);
+        page.sign('c', 59, 0, 0, 10);
+        CHECK.due("29 is no cut, 30 is one", Pages.text(page), "ab|c");
+    }
+
     private static void nextOnes() {
         TextOrder page = Pages.lettered();
         page.sign('a', 0, 0, 5, 10);
@@ -71,5 +114,13 @@ public final class SpaceTest {
         turned.turn(1, true);
         CHECK.due("in a turned line", Pages.spaces(turned, 2), "10");
         CHECK.due("its text", Pages.text(turned), "a_b");
+        TextOrder between = Pages.lettered();
+        between.sign('a', 0, 0, 8, 10);
+        between.sign('b', 16, 0, 8, 10);
+        between.sign('a', 2, 0, 14, 10);
+        CHECK.due("a double is not the next one", Pages.spaces(between, 3), "100");
+        between.map(0, 'b', 'a', 0);
+        between.sign('b', 15, 0, 8, 10);
+        CHECK.due("nor is a double of the next one", Pages.spaces(between, 4), "1000");
     }
 }

@@ -5,18 +5,24 @@ public final class TwiceTest {
     private static final Check CHECK = new Check("TwiceTest");
 
     public static void main(String[] args) {
-        wrongSigns();
+        noSuchSign();
         distances();
+        leastAndGreatestDistances();
         likeness();
         chains();
+        firstOfSeveral();
+        passedInAllThatFollows();
+        mostDoubles();
         CHECK.end();
     }
 
-    private static void wrongSigns() {
+    private static void noSuchSign() {
         TextOrder page = Pages.lettered();
+        CHECK.dueThrow("twice(0) without signs", NoSuchElementException.class, () -> page.twice(0));
         page.sign('a', 0, 0, 5, 10);
-        CHECK.dueThrow("twice(1)", NoSuchElementException.class, () -> page.twice(1));
-        CHECK.dueThrow("twice(-1)", NoSuchElementException.class, () -> page.twice(-1));
+        for (int sign : new int[] {-1, 1, 200, Integer.MIN_VALUE, Integer.MAX_VALUE}) {
+            CHECK.dueThrow("twice(" + sign + ")", NoSuchElementException.class, () -> page.twice(sign));
+        }
         CHECK.due("twice(0)", page.twice(0), -1);
     }
 
@@ -54,6 +60,36 @@ public final class TwiceTest {
         none.sign('a', 1, 0, 0, 10);
         none.sign('a', 0, 0, 0, 10);
         CHECK.due("without a width only the same u", Pages.doubles(none, 3), "-1,-1,0");
+    }
+
+    private static void apart(long width, int size, long u, long v, int want) {
+        TextOrder page = Pages.lettered();
+        page.sign('a', 0, 0, width, size);
+        page.sign('a', u, v, 5, 10);
+        page.sign('b', 0, 0, width, size);
+        page.sign('b', -u, -v, 5, 10);
+        String call = "width " + width + ", size " + size + ", apart (" + u + ", " + v + ")";
+        CHECK.due(call, page.twice(1), want);
+        CHECK.due(call + " to the other side", page.twice(3), want < 0 ? -1 : 2);
+    }
+
+    /** "Four times how far its u is .. is that one's width at most", and of its v that one's size. */
+    private static void leastAndGreatestDistances() {
+        apart(0, 1, 0, 0, 0);
+        apart(0, 1, 1, 0, -1);
+        apart(3, 1, 1, 0, -1);
+        apart(4, 1, 1, 0, 0);
+        apart(0, 1, 0, 1, -1);
+        apart(0, 3, 0, 1, -1);
+        apart(0, 4, 0, 1, 0);
+        apart(1000000, 1, 250000, 0, 0);
+        apart(1000000, 1, 250001, 0, -1);
+        apart(999999, 1, 250000, 0, -1);
+        apart(0, 1000, 0, 250, 0);
+        apart(0, 1000, 0, 251, -1);
+        apart(0, 999, 0, 250, -1);
+        apart(1000000, 1000, 250000, 250, 0);
+        apart(1000000, 1000, 1000000, 1000000, -1);
     }
 
     private static void likeness() {
@@ -95,5 +131,65 @@ public final class TwiceTest {
         wide.sign('a', 0, 0, 4, 10);
         wide.sign('a', 2, 0, 100, 10);
         CHECK.due("the earlier one's width counts", Pages.doubles(wide, 2), "-1,-1");
+    }
+
+    /** "It is a double of the first such one": of the first in number, not of the nearest. */
+    private static void firstOfSeveral() {
+        TextOrder page = Pages.lettered();
+        page.sign('a', 0, 0, 8, 10);
+        page.sign('a', 4, 0, 8, 10);
+        page.sign('a', 2, 0, 8, 10);
+        page.sign('a', 3, 0, 8, 10);
+        CHECK.due("as near to both, nearer to the second", Pages.doubles(page, 4), "-1,-1,0,1");
+        TextOrder wide = Pages.lettered();
+        wide.sign('a', 0, 0, 40, 10);
+        wide.sign('a', 11, 0, 40, 10);
+        wide.sign('a', 10, 0, 40, 10);
+        wide.sign('a', 11, 0, 40, 10);
+        CHECK.due("near to both", Pages.doubles(wide, 4), "-1,-1,0,1");
+        TextOrder later = Pages.lettered();
+        later.sign('a', 2, 0, 4, 10);
+        later.sign('a', 0, 0, 8, 10);
+        CHECK.due("never of a later one", Pages.doubles(later, 2), "-1,-1");
+    }
+
+    /** "And is passed in all that follows": doubles, however broad and great, change nothing for the others. */
+    private static void passedInAllThatFollows() {
+        TextOrder plain = Pages.lettered();
+        TextOrder page = Pages.lettered();
+        for (TextOrder each : new TextOrder[] {plain, page}) {
+            Pages.row(each, "ab", 0, 0);
+            Pages.row(each, "cd", 12, 0);
+            Pages.row(each, "e-", 0, -12);
+            Pages.row(each, "f", 0, -24);
+            Pages.row(each, "g", 0, -44);
+        }
+        page.sign('a', -1, 2, 900, 1000);
+        page.sign('d', 18, -2, 900, 1000);
+        page.sign('-', 6, -10, 900, 1000);
+        page.sign('g', 1, -46, 900, 1000);
+        page.tag(8, 0);
+        page.tag(11, 0);
+        CHECK.due("all that is told of the others", Pages.told(page, 8), Pages.told(plain, 8));
+        CHECK.due("text", Pages.text(page), "ab_cd_ef|g");
+        CHECK.due("the doubles", page.twice(8) + "," + page.twice(9) + "," + page.twice(10) + "," + page.twice(11),
+                "0,3,5,7");
+        CHECK.due("their lines and blocks", page.line(8) + page.block(8) + page.line(11) + page.block(11), -4);
+        CHECK.due("spaces behind them", page.space(8) || page.space(9) || page.space(10) || page.space(11), false);
+        CHECK.due("letters at their places", page.area(-1, 2, -1, 2) + page.area(18, -2, 18, -2), 0);
+    }
+
+    private static void mostDoubles() {
+        TextOrder page = Pages.lettered();
+        for (int i = 0; i < 200; i++) {
+            page.sign('a' + i % 2, 0, 0, 5, 10);
+        }
+        CHECK.due("the last of 200", page.twice(199), 1);
+        CHECK.due("the one before", page.twice(198), 0);
+        CHECK.dueThrow("twice(200)", NoSuchElementException.class, () -> page.twice(200));
+        CHECK.due("text", Pages.text(page), "ab");
+        page.map(0, 'b', 'a', 0);
+        CHECK.due("all but one", page.twice(199), 0);
+        CHECK.due("text of one letter", Pages.text(page), "a");
     }
 }
