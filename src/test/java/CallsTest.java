@@ -7,6 +7,7 @@ public final class CallsTest {
     public static void main(String[] args) {
         signsUntilTheLast();
         changesUntilTheLast();
+        blocksUntilTheLast();
         mapsUntilTheLast();
         searchesUntilTheLast();
         CHECK.end();
@@ -36,6 +37,25 @@ public final class CallsTest {
             CHECK.due("tag(" + sign + ", 0)", page.tag(sign, 0), -1);
             CHECK.due("from(0) behind call " + (call + 1), page.from(0), sign);
             CHECK.due("tag(" + sign + ", -1), call " + (call + 3), page.tag(sign, -1), 0);
+        }
+    }
+
+    /**
+     * Ten columns of three lines, of which one sign after the other is turned, asked for, and turned back; a column
+     * without its middle line is two blocks.
+     */
+    private static void blocksUntilTheLast() {
+        TextOrder page = new TextOrder();
+        for (int i = 0; i < 30; i++) {
+            page.sign(i, i / 3 * 100L, i % 3 * -12L, 5, 10);
+        }
+        int sign = 0;
+        for (int call = 30; call + 4 <= MOST_CALLS; call += 4) {
+            sign = (sign + 11) % 30;
+            CHECK.due("turn(" + sign + ", true)", page.turn(sign, true), 0);
+            CHECK.due("its block behind call " + (call + 1), page.block(sign), sign % 3 == 1 ? 11 : 10);
+            CHECK.due("turn(" + sign + ", false)", page.turn(sign, false), 1);
+            CHECK.due("its block, call " + (call + 4), page.block(sign), sign / 3);
         }
     }
 

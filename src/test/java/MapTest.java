@@ -89,6 +89,9 @@ public final class MapTest {
         CHECK.due("two letters", page.length(), 2);
         page.map(0, 7, 1, 0);
         CHECK.due("one letter, without the second that was", page.length(), 1);
+        CHECK.due("the least letter is one that was told", page.map(0, 7, 2, 1), 1);
+        CHECK.due("and so is the least second", page.map(0, 7, 65535, 65535), 2);
+        CHECK.due("and the greatest", page.map(0, 7, 0, 0), 2);
     }
 
     private static void wrong(TextOrder page, int kind, int code, int letter, int second,

@@ -12,6 +12,8 @@ public final class SpaceTest {
         greatestWidths();
         withoutAWidth();
         nextOnes();
+        gapOfTheSignItself();
+        gone();
         CHECK.end();
     }
 
@@ -122,5 +124,51 @@ public final class SpaceTest {
         between.map(0, 'b', 'a', 0);
         between.sign('b', 15, 0, 8, 10);
         CHECK.due("nor is a double of the next one", Pages.spaces(between, 4), "1000");
+    }
+
+    /** "How much the next one's u in its line is more than its own u and width", whatever else lies there. */
+    private static void gapOfTheSignItself() {
+        TextOrder page = Pages.lettered();
+        page.sign('a', 0, 0, 90, 10);
+        page.sign('b', 10, 0, 5, 10);
+        page.sign('c', 20, 0, 5, 10);
+        page.sign('d', 55, 0, 5, 10);
+        CHECK.due("a broad sign before hides no space", Pages.spaces(page, 4), "0100");
+        CHECK.due("nor a cut", Pages.text(page), "ab_c_d");
+        CHECK.due("though the gap parts no block", Pages.blocks(page, 4), "0,0,0,0");
+    }
+
+    /** Spaces that there were, and are no more when the next sign is gone, farther, nearer, or is a double. */
+    private static void gone() {
+        TextOrder page = Pages.lettered();
+        page.sign('a', 0, 0, 5, 10);
+        page.sign('b', 10, 0, 5, 10);
+        CHECK.due("a space", page.space(0), true);
+        page.turn(1, true);
+        CHECK.due("the next is turned", page.space(0), false);
+        page.turn(1, false);
+        CHECK.due("and back", page.space(0), true);
+        page.sign('c', 5, 0, 5, 10);
+        CHECK.due("one comes between", Pages.spaces(page, 3), "000");
+        page.turn(2, true);
+        CHECK.due("and is turned", page.space(0), true);
+        page.turn(0, true);
+        CHECK.due("the sign itself is turned, alone in its line", Pages.spaces(page, 3), "000");
+        TextOrder far = Pages.lettered();
+        far.sign('a', 0, 0, 5, 10);
+        far.sign('b', 10, 0, 5, 10);
+        far.sign('c', 35, 0, 5, 10);
+        CHECK.due("two spaces", Pages.spaces(far, 3), "110");
+        far.turn(1, true);
+        CHECK.due("a cut where a space was", Pages.spaces(far, 3), "000");
+        TextOrder twice = Pages.lettered();
+        twice.sign('b', 0, 0, 8, 10);
+        twice.sign('a', 2, 0, 8, 10);
+        twice.sign('c', 20, 0, 8, 10);
+        CHECK.due("a space behind the second", Pages.spaces(twice, 3), "010");
+        twice.map(0, 'a', 'b', 0);
+        CHECK.due("it is a double now", Pages.spaces(twice, 3), "100");
+        twice.map(0, 'a', 'a', 0);
+        CHECK.due("and back", Pages.spaces(twice, 3), "010");
     }
 }
