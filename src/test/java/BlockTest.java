@@ -15,7 +15,9 @@ public final class BlockTest {
         acrossBeforeDown();
         overlaps();
         edgesOfSegments();
+        overTheMiddle();
         sizesOfThePart();
+        segmentsThatAreGone();
         segmentsOfOneBlock();
         turnedBlocks();
         turnedEdges();
@@ -214,6 +216,31 @@ public final class BlockTest {
             top.sign('d', 10, -20, 5, 5);
             CHECK.due("the top is the greatest v and size", Pages.blocks(top, 4), y == -20 ? "0,1,1,1" : "0,0,0,0");
         }
+    }
+
+    /** Gaps that lie over (0, 0), where no sign is. */
+    private static void overTheMiddle() {
+        TextOrder across = Pages.lettered();
+        across.sign('a', -15, 0, 5, 10);
+        across.sign('b', 10, -10, 5, 10);
+        CHECK.due("a gap from -10 to 10 across", Pages.blocks(across, 2), "0,1");
+        TextOrder down = Pages.lettered();
+        down.sign('a', 0, 5, 5, 10);
+        down.sign('b', 0, -15, 5, 10);
+        CHECK.due("a gap from 5 to -5 down", Pages.blocks(down, 2), "0,1");
+    }
+
+    /** A great sign in a line of its own, which then is there twice: it holds nothing together any more. */
+    private static void segmentsThatAreGone() {
+        TextOrder page = Pages.lettered();
+        page.sign('a', 0, 0, 5, 10);
+        page.sign('b', 0, -20, 5, 10);
+        page.sign('d', 5, -18, 5, 4);
+        page.sign('c', 0, -22, 5, 1000);
+        CHECK.due("lines", Pages.lines(page, 4), "0,1,1,2");
+        CHECK.due("held together", Pages.blocks(page, 4), "0,0,0,0");
+        page.map(0, 'c', 'b', 0);
+        CHECK.due("as a double", Pages.blocks(page, 4), "0,1,1,-1");
     }
 
     /** The greatest size is that of the signs that are looked at: not of parts that are gone, nor of doubles. */
